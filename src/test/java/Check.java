@@ -1,0 +1,94 @@
+/** What the tests share: counting wrong answers, and bits as texts. */
+final class Check {
+    private static int done = 0;
+    private static int wrong = 0;
+
+    interface Call {
+        Object answer();
+    }
+
+    private Check() {
+    }
+
+    static void same(String what, Object got, Object due) {
+        done++;
+        if (!due.equals(got)) {
+            wrong++;
+            System.out.println(what + " answered " + got + ", due is " + due);
+        }
+    }
+
+    /** The answer of a call, or the simple name of the exception that it throws. */
+    static Object outcome(Call call) {
+        try {
+            return call.answer();
+        } catch (RuntimeException e) {
+            return e.getClass().getSimpleName();
+        }
+    }
+
+    static void outOfBounds(String what, Call call) {
+        same(what, outcome(call), "IndexOutOfBoundsException");
+    }
+
+    static void illegal(String what, Call call) {
+        same(what, outcome(call), "IllegalArgumentException");
+    }
+
+    static void unsupported(String what, Call call) {
+        same(what, outcome(call), "UnsupportedOperationException");
+    }
+
+    static String written(LineGolomb x, int from) {
+        StringBuilder text = new StringBuilder();
+        int end = x.size();
+        for (int i = from; i < end; i++) {
+            text.append(x.bitAt(i));
+        }
+        return text.toString();
+    }
+
+    static void feed(LineGolomb x, String bits) {
+        for (int i = 0; i < bits.length(); i++) {
+            same("feed", x.feed(bits.charAt(i) - '0'), true);
+        }
+    }
+
+    /** All that can be seen of an object, but for the bits themselves. */
+    static String seen(LineGolomb x) {
+        StringBuilder text = new StringBuilder();
+        text.append(x.size()).append(' ').append(x.waiting()).append(' ').append(x.wasEnded());
+        for (int side = 0; side < 2; side++) {
+            text.append(" | ").append(x.step(side == 1));
+            for (int n = 0; n < 8; n++) {
+                text.append(' ').append(x.state(side == 1, n / 4, n % 4));
+            }
+        }
+        return text.toString();
+    }
+
+    static String state(LineGolomb x, boolean reading, int kind) {
+        return x.state(reading, kind, 0) + " " + x.state(reading, kind, 1) + " "
+            + x.state(reading, kind, 2) + " " + x.state(reading, kind, 3);
+    }
+
+    /** Fills a new object, its limit being 200, up to so many bits, in few calls. */
+    static void fillTo(LineGolomb x, int bits) {
+        int most = 1 << x.told(4);
+        int left = bits;
+        while (left >= 200) {
+            left -= x.code(0, most);
+        }
+        while (left > 0) {
+            left -= x.code(0, Math.min(left, 100) - 1);
+        }
+        same("filled", x.size(), bits);
+    }
+
+    static void end(String name) {
+        System.out.println(name + ": " + done + " answers, " + wrong + " wrong");
+        if (wrong != 0 || done == 0) {
+            System.exit(1);
+        }
+    }
+}
