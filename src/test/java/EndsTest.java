@@ -188,9 +188,9 @@ public final class EndsTest {
         LineGolomb x = new LineGolomb(8, 0, 26);
         String whole = "0".repeat(16) + "1" + "00111111";
         for (int i = 0; i < whole.length(); i++) {
-            String before = Check.seen(x);
             Check.same("bit " + i + " is missing", x.readInterrupt(0), LineGolomb.NO_ERROR);
-            Check.same("nothing changed", Check.seen(x), before);
+            Check.same("waiting", x.waiting(), i);
+            Check.same("state", Check.state(x, true, 0), "4 1 0 2");
             Check.feed(x, whole.substring(i, i + 1));
         }
         Check.same("all there", x.readInterrupt(0), 32);
