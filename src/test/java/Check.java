@@ -48,6 +48,18 @@ final class Check {
         return text.toString();
     }
 
+    static String binary(int number, int width) {
+        String text = "0".repeat(32) + Integer.toBinaryString(number);
+        return text.substring(text.length() - width);
+    }
+
+    /** A number in k, with so many bits 0 at most. */
+    static String number(int k, int number, int mostZeros, int q) {
+        int zeros = number >> k;
+        return zeros < mostZeros ? "0".repeat(zeros) + "1" + binary(number, k)
+            : "0".repeat(mostZeros) + "1" + binary(number - 1, q);
+    }
+
     static void feed(LineGolomb x, String bits) {
         for (int i = 0; i < bits.length(); i++) {
             same("feed", x.feed(bits.charAt(i) - '0'), true);
@@ -72,15 +84,17 @@ final class Check {
             + x.state(reading, kind, 2) + " " + x.state(reading, kind, 3);
     }
 
-    /** Fills a new object, its limit being 200, up to so many bits, in few calls. */
+    /** Fills a new object, Q being 8 or more, up to so many bits, with as few calls as the limit lets. */
     static void fillTo(LineGolomb x, int bits) {
         int most = 1 << x.told(4);
+        int limit = x.told(2);
+        int plain = limit - x.told(4) - 1;
         int left = bits;
-        while (left >= 200) {
+        while (left >= limit) {
             left -= x.code(0, most);
         }
         while (left > 0) {
-            left -= x.code(0, Math.min(left, 100) - 1);
+            left -= x.code(0, Math.min(left, plain) - 1);
         }
         same("filled", x.size(), bits);
     }
