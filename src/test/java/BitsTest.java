@@ -52,12 +52,13 @@ public final class BitsTest {
 
     /** Passes bits until so many wait; feeding them all one by one would take too many calls. */
     private static void fillQueue(LineGolomb x, int many) {
-        while (x.size() < 100) {
+        for (int n = 0; n < 100; n++) {
             x.run(0, false);
         }
-        while (x.waiting() < many) {
+        for (int n = 0; n < 10; n++) {
             x.pass(0, many - x.waiting());
         }
+        Check.same("waiting", x.waiting(), many);
     }
 
     private static void fedBitsComeInTheirOrder() {

@@ -26,6 +26,7 @@ public final class BoundsOfEndsTest {
         limitWithoutARun();
         limitGoesByTheWidthOfEachStep();
         limitGoesByTheLatestRunOfThatSide();
+        limitStaysUntilTheNextRun();
         rowHasRoomForJustThat();
         kindHasTwoBounds();
         endsThatAreNotAllThere();
@@ -359,6 +360,32 @@ public final class BoundsOfEndsTest {
         Check.feed(w, "1".repeat(12));
         Check.same("read", w.readRun(28), 28);
         limitIs(w, "no run was written", 16, false);
+    }
+
+    /** "the latest run": the ends and numbers behind it do not matter, on either side */
+    private static void limitStaysUntilTheNextRun() {
+        LineGolomb x = new LineGolomb(8, 0, 26);
+        // At step 12 the width is 3: what takes the other form is in 22 bits.
+        x.run(28, true);
+        x.code(0, 5);
+        x.interrupt(0, 0);
+        Check.same("behind a number and an end of kind 0", x.interrupt(1, 128), 22);
+        x.clear();
+        x.run(28, true);
+        x.interrupt(1, 1);
+        x.code(0, 256);
+        Check.same("behind an end of kind 1 and a number", x.interrupt(0, 128), 22);
+        LineGolomb y = new LineGolomb(8, 0, 26);
+        Check.feed(y, "1".repeat(12) + "000001" + "100" + "0".repeat(14));
+        Check.same("a run", y.readRun(28), 28);
+        Check.same("a number", y.read(0), 5);
+        Check.same("an end of kind 0", y.readInterrupt(0), 0);
+        Check.same("14 bits 0 are too many", y.readInterrupt(1), LineGolomb.NO_ERROR);
+        Check.same("they go", y.waiting(), 0);
+        Check.feed(y, "101" + "0".repeat(14));
+        Check.same("an end of kind 1", y.readInterrupt(1), 1);
+        Check.same("14 bits 0 are too many", y.readInterrupt(0), LineGolomb.NO_ERROR);
+        Check.same("they go", y.waiting(), 0);
     }
 
     /** "UnsupportedOperation: more than 6000 bits would be written" */

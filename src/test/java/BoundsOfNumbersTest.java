@@ -9,6 +9,7 @@ public final class BoundsOfNumbersTest {
         zerosGrowWithEach2ToTheK();
         theOtherFormBegins();
         theOtherFormHasOneLess();
+        limitIsTheSameBehindARun();
         kHasTwoBounds();
         numberHasTwoBounds();
         rowHasRoomForJustThat();
@@ -86,6 +87,22 @@ public final class BoundsOfNumbersTest {
         bothWays(new int[] {16, 0, 0}, 0, 65536, "0".repeat(17) + "1" + "1".repeat(16));
         bothWays(new int[] {16, 0, 0}, 11, 65536, "0".repeat(17) + "1" + "1".repeat(16));
         bothWays(new int[] {16, 0, 0}, 12, 65536, "0".repeat(16) + "1" + "0".repeat(12));
+    }
+
+    /** "A number in k is written, with LIMIT": also behind a run, whose width shortens the limit of ends alone */
+    private static void limitIsTheSameBehindARun() {
+        LineGolomb x = new LineGolomb(8, 0, 26);
+        String last = "0".repeat(16) + "1";
+        String first = "0".repeat(17) + "1" + "00010000";
+        x.run(65535, true);
+        Check.same("the last plain one", x.code(0, 16), 17);
+        Check.same("the first other one", x.code(0, 17), 26);
+        Check.same("bits", Check.written(x, 32), last + first);
+        x.pass(0, 1000);
+        Check.same("a run", x.readRun(65535), 65535);
+        Check.same("the last plain one", x.read(0), 16);
+        Check.same("the first other one", x.read(0), 17);
+        Check.same("all went", x.waiting(), 0);
     }
 
     /** "IllegalArgument: k is not 0 .. Q" */

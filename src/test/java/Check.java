@@ -90,11 +90,9 @@ final class Check {
         int limit = x.told(2);
         int plain = limit - x.told(4) - 1;
         int left = bits;
-        while (left >= limit) {
-            left -= x.code(0, most);
-        }
-        while (left > 0) {
-            left -= x.code(0, Math.min(left, plain) - 1);
+        // A wrong answer must not keep it from ending.
+        for (int n = 0; n < 300 && left > 0; n++) {
+            left -= left >= limit ? x.code(0, most) : x.code(0, Math.min(left, plain) - 1);
         }
         same("filled", x.size(), bits);
     }
