@@ -11,6 +11,7 @@ public final class ModelTest {
     private final LineGolomb x;
     private final Model model;
     private final String name;
+    private final int style;
     private int passedTo = 0;
     private int calls = 0;
 
@@ -22,28 +23,42 @@ public final class ModelTest {
         x = new LineGolomb(bits, near, limit);
         model = new Model(bits, near, limit);
         name = "run " + seed + " (" + bits + ", " + near + ", " + limit + ") ";
+        style = random.nextInt(5);
     }
 
     public static void main(String[] args) {
-        for (int seed = 0; seed < RUNS; seed++) {
-            new ModelTest(seed).go();
+        for (int seed = 0; seed < RUNS; seed += 2) {
+            inTurns(new ModelTest(seed), new ModelTest(seed + 1));
         }
         Check.end("ModelTest");
     }
 
-    private void go() {
-        int style = random.nextInt(5);
-        while (calls < CALLS) {
-            if (random.nextInt(20) == 0) {
-                lookCall();
-            } else if (style == 0) {
-                anyCall();
-            } else if (style == 1) {
-                writingCall();
-            } else {
-                twoSides(style == 2 ? 2 : random.nextInt(3));
-            }
+    /** Two objects in turns: neither may see anything of the other one. */
+    private static void inTurns(ModelTest one, ModelTest other) {
+        while (one.calls < CALLS || other.calls < CALLS) {
+            one.turn();
+            other.turn();
         }
+        one.end();
+        other.end();
+    }
+
+    private void turn() {
+        if (calls >= CALLS) {
+            return;
+        }
+        if (random.nextInt(20) == 0) {
+            lookCall();
+        } else if (style == 0) {
+            anyCall();
+        } else if (style == 1) {
+            writingCall();
+        } else {
+            twoSides(style == 2 ? 2 : random.nextInt(3));
+        }
+    }
+
+    private void end() {
         Check.same(name + "at the end", Check.seen(x), seen());
     }
 

@@ -9,6 +9,7 @@ public final class NewObjectTest {
         limitIsTakenAsTheNearest();
         firstStates();
         othersAreNotTold();
+        eachObjectHasItsOwn();
         Check.end("NewObjectTest");
     }
 
@@ -72,5 +73,29 @@ public final class NewObjectTest {
         for (int what : new int[] {-1, 5, 6, Integer.MIN_VALUE, Integer.MAX_VALUE}) {
             Check.same("told " + what, x.told(what), LineGolomb.NO_CODE);
         }
+    }
+
+    /** What one object does is not seen in others, made before it or after it. */
+    private static void eachObjectHasItsOwn() {
+        String first = "0 0 false | 0 4 1 0 2 4 1 0 2 | 0 4 1 0 2 4 1 0 2";
+        LineGolomb before = new LineGolomb(8, 0, 32);
+        LineGolomb x = new LineGolomb(8, 0, 32);
+        x.run(9, false);
+        x.interrupt(0, -4);
+        x.interrupt(1, 7);
+        x.pass(0, 12);
+        x.readRun(100);
+        x.readInterrupt(0);
+        x.feed(1);
+        String used = Check.seen(x);
+        Check.same("made before", Check.seen(before), first);
+        LineGolomb after = new LineGolomb(12, 2, 48);
+        Check.same("made after", Check.seen(after), "0 0 false | 0 13 1 0 4 13 1 0 4 | 0 13 1 0 4 13 1 0 4");
+        before.code(0, 256);
+        after.run(700, true);
+        before.clear();
+        Check.same("as it was", Check.seen(x), used);
+        Check.same("its bits", Check.written(x, 0), "11111101" + "0111" + "000101");
+        Check.same("what it was made with", x.told(0) + " " + x.told(3), "8 256");
     }
 }
