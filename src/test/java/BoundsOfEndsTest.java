@@ -28,6 +28,7 @@ public final class BoundsOfEndsTest {
         limitGoesByTheLatestRunOfThatSide();
         limitStaysUntilTheNextRun();
         rowHasRoomForJustThat();
+        widthStaysWithoutRoom();
         kindHasTwoBounds();
         endsThatAreNotAllThere();
         tooManyZeros();
@@ -400,6 +401,17 @@ public final class BoundsOfEndsTest {
             TWINS.refused("interrupt " + end[0] + " " + end[1] + " with a bit too many", UNSUPPORTED,
                 y -> Check.fillTo(y, 6001 - end[2]), y -> y.interrupt(end[0], end[1]));
         }
+    }
+
+    /** "A call that throws changes nothing": also not the width of the latest run, 3, that the next end's limit goes by */
+    private static void widthStaysWithoutRoom() {
+        LineGolomb x = new LineGolomb(8, 0, 26);
+        Check.same("to step 12", x.run(30, false), 12 + 1 + 3);
+        Check.same("and back", x.step(false), 11);
+        Check.fillTo(x, 6000 - 21);
+        Check.unsupported("22 bits", () -> x.interrupt(0, 64));
+        Check.unsupported("with 13 bits 0 it takes the other form, in 22 bits", () -> x.interrupt(0, -27));
+        Check.same("with 12 bits 0 it does not", x.interrupt(0, -26), 12 + 1 + 2);
     }
 
     /** "IndexOutOfBounds: there is no such .. kind" */

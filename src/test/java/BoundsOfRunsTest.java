@@ -213,6 +213,15 @@ public final class BoundsOfRunsTest {
         // There is room for an end behind it: that shows that the width of the latest run stays as well.
         TWINS.refused("far too many", UNSUPPORTED, y -> Check.fillTo(y, 5970), y -> y.run(65535, false));
         TWINS.refused("far too many to the end", UNSUPPORTED, y -> Check.fillTo(y, 5970), y -> y.run(65535, true));
+        TWINS.refused("far too many behind a run", UNSUPPORTED, y -> runThenFill(y, 5970), y -> y.run(65535, false));
+        TWINS.refused("too many to the end behind a run", UNSUPPORTED, y -> runThenFill(y, 5976), y -> y.run(65535, true));
+    }
+
+    /** A run that ended at a width of 2, and then fell to a step of width 1. */
+    private static void runThenFill(LineGolomb x, int bits) {
+        x.run(13, false);
+        Check.same("step", x.step(false), 7);
+        Check.fillTo(x, bits);
     }
 
     /** "UnsupportedOperation: more than 6000 bits would be written": not by a run that is written in none */

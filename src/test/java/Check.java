@@ -84,12 +84,12 @@ final class Check {
             + x.state(reading, kind, 2) + " " + x.state(reading, kind, 3);
     }
 
-    /** Fills a new object, Q being 8 or more, up to so many bits, with as few calls as the limit lets. */
+    /** Fills an object, Q being 8 or more, up to so many bits, with as few calls as the limit lets. */
     static void fillTo(LineGolomb x, int bits) {
         int most = 1 << x.told(4);
         int limit = x.told(2);
         int plain = limit - x.told(4) - 1;
-        int left = bits;
+        int left = bits - x.size();
         // A wrong answer must not keep it from ending.
         for (int n = 0; n < 300 && left > 0; n++) {
             left -= left >= limit ? x.code(0, most) : x.code(0, Math.min(left, plain) - 1);

@@ -41,7 +41,7 @@ public final class EachCallTest {
 
     // A number, too many bits 0, a whole run to the end, one that has as much as is left, far errors, less than a code.
     private static final String[] WAITING = {
-        "", "1", "0".repeat(60) + "1", "1".repeat(12), "1110" + "1".repeat(12), "10" + "1".repeat(12),
+        "", "0", "1", "10", "110", "1110", "0".repeat(60) + "1", "1".repeat(12), "1110" + "1".repeat(12), "10" + "1".repeat(12),
         "0".repeat(20) + "1" + "1".repeat(9), "0".repeat(45) + "1" + "1".repeat(9), "0".repeat(51) + "1" + "0".repeat(9),
         "0".repeat(49) + "1" + "1".repeat(9), "0".repeat(48) + "1" + "1".repeat(9), "0".repeat(47) + "1" + "1".repeat(9)};
 
