@@ -18,6 +18,8 @@ public final class ReadmeTest {
     // What is due comes first in the remark; the rest of it explains.
     private static final Pattern DUE = Pattern.compile("(-?\\d+|true|false|WAITS|NO_CODE|NO_ERROR|throws (\\w+))\\b.*");
 
+    private static final Pattern WRITTEN = Pattern.compile("\\d+ bits, ([01]+): .*");
+
     private final Map<String, LineGolomb> made = new TreeMap<>();
     private final Set<String> shown = new TreeSet<>();
 
@@ -45,10 +47,19 @@ public final class ReadmeTest {
                 Integer.parseInt(making.group(3)), Integer.parseInt(making.group(4))));
         } else if (calling.matches() && made.containsKey(calling.group(1))) {
             shown.add(calling.group(3));
-            String answer = Script.answer(made.get(calling.group(1)), calling.group(2)).toString();
-            Check.same("README.md: " + line, answer, dueIn(calling.group(4)));
+            LineGolomb x = made.get(calling.group(1));
+            Check.same("README.md: " + line, Script.answer(x, calling.group(2)).toString(), dueIn(calling.group(4)));
+            lastBits(line, x, calling.group(4));
         } else {
             Check.same("README.md: " + line, "not understood", "an object is made, or a call on it");
+        }
+    }
+
+    private static void lastBits(String line, LineGolomb x, String remark) {
+        Matcher written = WRITTEN.matcher(remark == null ? "" : remark);
+        if (written.matches()) {
+            String bits = written.group(1);
+            Check.same("README.md: bits of " + line, Check.written(x, Math.max(0, x.size() - bits.length())), bits);
         }
     }
 
